@@ -56,6 +56,19 @@ final class Check {
         }
     }
 
+    static MakerGuard of(int body, int[]... instructions) {
+        MakerGuard guard = new MakerGuard();
+        write(guard, body, instructions);
+        return guard;
+    }
+
+    /** What a local holds: due are its class, nullness and state. */
+    static void held(String what, MakerGuard guard, int body, int place, int local, int... due) {
+        for (int k = 0; k < 3; k++) {
+            due(what + ", what " + k, guard.holds(body, place, local, k), due[k]);
+        }
+    }
+
     static int[] copy(int x, int y) {
         return new int[] {0, x, y, 0};
     }

@@ -32,7 +32,7 @@ public final class DeclareTest {
         Check.write(g, 6, Check.giveBack(0));
         Check.due("new: calls are good", g.good(6), true);
         for (int f = 0; f < 6; f++) {
-            held("new: returned by " + f, g, 6, 6, f, 0, 1, 0);
+            Check.held("new: returned by " + f, g, 6, 6, f, 0, 1, 0);
         }
         newFields();
     }
@@ -45,7 +45,7 @@ public final class DeclareTest {
             Check.write(g, c, Check.giveBack(0));
             Check.due("new: maker " + c + " needs no field", g.good(c), true);
             for (int k = 0; k < 4; k++) {
-                held("new: field " + k + " of class " + c, g, 6, 5, 1 + k, 0, 1, 0);
+                Check.held("new: field " + k + " of class " + c, g, 6, 5, 1 + k, 0, 1, 0);
             }
         }
     }
@@ -54,10 +54,10 @@ public final class DeclareTest {
         MakerGuard g = new MakerGuard();
         g.field(5, 3, 4, false);
         Check.write(g, 6, Check.make(0, 5, 0), Check.get(1, 0, 3), Check.get(2, 0, 2), Check.giveBack(2));
-        held("field 3 of class 5", g, 6, 3, 1, 4, 0, 0);
-        held("field 2 of class 5", g, 6, 3, 2, 0, 1, 0);
+        Check.held("field 3 of class 5", g, 6, 3, 1, 4, 0, 0);
+        Check.held("field 2 of class 5", g, 6, 3, 2, 0, 1, 0);
         g.field(5, 3, 1, true);
-        held("field 3 of class 5 anew", g, 6, 3, 1, 1, 1, 0);
+        Check.held("field 3 of class 5 anew", g, 6, 3, 1, 1, 1, 0);
         Check.write(g, 5, Check.giveBack(0));
         Check.due("all fields nullable", g.good(5), true);
         g.field(5, 0, 5, false);
@@ -73,9 +73,9 @@ public final class DeclareTest {
         Check.due("second", g.parameter(7, 1, 2, false, 1), 2);
         Check.due("third", g.parameter(7, 2, 5, false, 0), 3);
         Check.write(g, 7, Check.go(0));
-        held("parameter 0", g, 7, 0, 0, 3, 1, 2);
-        held("parameter 1", g, 7, 0, 1, 2, 0, 1);
-        held("parameter 2", g, 7, 0, 2, 5, 0, 0);
+        Check.held("parameter 0", g, 7, 0, 0, 3, 1, 2);
+        Check.held("parameter 1", g, 7, 0, 1, 2, 0, 1);
+        Check.held("parameter 2", g, 7, 0, 2, 5, 0, 0);
         Check.due("local 3 holds nothing", g.holds(7, 0, 3, 0), -2);
         Check.refused("a fourth", g, Check.NO_SUCH, x -> x.parameter(7, 3, 0, true, 0));
         Check.refused("behind the next", g, Check.STATE, x -> x.parameter(8, 1, 0, true, 0));
@@ -88,18 +88,18 @@ public final class DeclareTest {
         g.parameter(0, 1, 1, true, 0);
         Check.due("parameter 0 anew", g.parameter(0, 0, 4, false, 1), 2);
         Check.write(g, 0, Check.giveBack(0));
-        held("parameter 0 anew", g, 0, 0, 0, 4, 0, 1);
-        held("parameter 1 stays", g, 0, 0, 1, 1, 1, 0);
-        held("SELF", g, 0, 0, 7, 0, 0, 1);
+        Check.held("parameter 0 anew", g, 0, 0, 0, 4, 0, 1);
+        Check.held("parameter 1 stays", g, 0, 0, 1, 1, 1, 0);
+        Check.held("SELF", g, 0, 0, 7, 0, 0, 1);
     }
 
     private static void returnsIsDeclared() {
         MakerGuard g = new MakerGuard();
         g.returns(5, 3, false, 2);
         Check.write(g, 6, Check.call(2, 5, 0), Check.go(1));
-        held("returned", g, 6, 1, 2, 3, 0, 2);
+        Check.held("returned", g, 6, 1, 2, 3, 0, 2);
         g.returns(5, 1, true, 1);
-        held("returned anew", g, 6, 1, 2, 1, 1, 1);
+        Check.held("returned anew", g, 6, 1, 2, 1, 1, 1);
     }
 
     private static void addCounts() {
@@ -150,7 +150,7 @@ public final class DeclareTest {
         Check.refused("nor parameter 1", g, Check.STATE, x -> x.parameter(6, 1, 0, true, 0));
         Check.due("good", g.good(6), false);
         Check.write(g, 7, Check.call(0, 0, 0), Check.go(1));
-        held("it returns what it did at first", g, 7, 1, 0, 0, 1, 0);
+        Check.held("it returns what it did at first", g, 7, 1, 0, 0, 1, 0);
         Check.due("add", g.add(6, 8, 0, 0, 0), 1);
     }
 
@@ -163,7 +163,7 @@ public final class DeclareTest {
         Check.due("clear of a maker", g.clear(0), 1);
         Check.write(g, 0, Check.giveBack(0));
         Check.due("its class keeps its fields", g.good(0), false);
-        held("another body keeps its parameters", g, 1, 0, 0, 1, 0, 0);
+        Check.held("another body keeps its parameters", g, 1, 0, 0, 1, 0, 0);
     }
 
     private static void changesEndTheRun() {
@@ -181,12 +181,6 @@ public final class DeclareTest {
             Check.refused("state behind change " + k, g, Check.STATE, x -> x.state(0));
             Check.refused("local behind change " + k, g, Check.NO_SUCH, x -> x.local(0));
             Check.refused("object behind change " + k, g, Check.NO_SUCH, x -> x.object(0, 0));
-        }
-    }
-
-    private static void held(String what, MakerGuard g, int body, int place, int local, int... due) {
-        for (int k = 0; k < 3; k++) {
-            Check.due(what + ", what " + k, g.holds(body, place, local, k), due[k]);
         }
     }
 }

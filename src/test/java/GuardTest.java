@@ -18,6 +18,7 @@ public final class GuardTest {
         ifNull();
         waysThatAreNone();
         waysMeet();
+        nullsMeet();
         waysMeetInLoops();
         returnOfFunctions();
         returnOfMakers();
@@ -48,16 +49,16 @@ public final class GuardTest {
     }
 
     private static void copyAndNull() {
-        MakerGuard g = of(6, Check.setNull(1), Check.copy(2, 1), Check.make(3, 4, 0), Check.copy(1, 3),
+        MakerGuard g = Check.of(6, Check.setNull(1), Check.copy(2, 1), Check.make(3, 4, 0), Check.copy(1, 3),
                 Check.copy(3, 3), Check.go(5));
-        held("NULL", g, 6, 1, 1, -1, 2, 0);
-        held("COPY of null", g, 6, 2, 2, -1, 2, 0);
-        held("NEW", g, 6, 3, 3, 4, 0, 0);
-        held("COPY over null", g, 6, 4, 1, 4, 0, 0);
-        held("COPY of itself", g, 6, 5, 3, 4, 0, 0);
-        held("what stays", g, 6, 5, 2, -1, 2, 0);
-        held("nothing", g, 6, 5, 0, NOTHING, NOTHING, NOTHING);
-        held("nothing yet", g, 6, 0, 1, NOTHING, NOTHING, NOTHING);
+        Check.held("NULL", g, 6, 1, 1, -1, 2, 0);
+        Check.held("COPY of null", g, 6, 2, 2, -1, 2, 0);
+        Check.held("NEW", g, 6, 3, 3, 4, 0, 0);
+        Check.held("COPY over null", g, 6, 4, 1, 4, 0, 0);
+        Check.held("COPY of itself", g, 6, 5, 3, 4, 0, 0);
+        Check.held("what stays", g, 6, 5, 2, -1, 2, 0);
+        Check.held("nothing", g, 6, 5, 0, NOTHING, NOTHING, NOTHING);
+        Check.held("nothing yet", g, 6, 0, 1, NOTHING, NOTHING, NOTHING);
         good("COPY of nothing", false, 6, Check.copy(0, 1), Check.go(1));
         good("COPY of nothing to itself", false, 6, Check.copy(0, 0), Check.go(1));
     }
@@ -93,8 +94,8 @@ public final class GuardTest {
             g.field(3, 1, 5, true);
             g.parameter(6, 0, 3, false, state);
             Check.write(g, 6, Check.get(1, 0, 2), Check.get(0, 0, 1), Check.go(2));
-            held("GET not nullable, state " + state, g, 6, 2, 1, 4, state == 0 ? 0 : 1, state == 0 ? 0 : 2);
-            held("GET nullable, state " + state, g, 6, 2, 0, 5, 1, state == 0 ? 0 : 2);
+            Check.held("GET not nullable, state " + state, g, 6, 2, 1, 4, state == 0 ? 0 : 1, state == 0 ? 0 : 2);
+            Check.held("GET nullable, state " + state, g, 6, 2, 0, 5, 1, state == 0 ? 0 : 2);
         }
     }
 
@@ -211,11 +212,11 @@ public final class GuardTest {
                 g.parameter(7, 0, 1, nullness != 0, state);
                 Check.write(g, 7, nullness == 2 ? Check.ifNull(0, 2) : Check.go(2), Check.go(1),
                         Check.make(0, 4, 0), Check.go(3));
-                held("NEW with state " + state + ", nullness " + nullness, g, 7, 3, 0, 4, 0, due[state][nullness]);
+                Check.held("NEW with state " + state + ", nullness " + nullness, g, 7, 3, 0, 4, 0, due[state][nullness]);
             }
         }
-        MakerGuard g = of(6, Check.make(0, 5, 0), Check.go(1));
-        held("NEW without parameters", g, 6, 1, 0, 5, 0, 0);
+        MakerGuard g = Check.of(6, Check.make(0, 5, 0), Check.go(1));
+        Check.held("NEW without parameters", g, 6, 1, 0, 5, 0, 0);
     }
 
     private static void stateOfNewOfSeveral() {
@@ -228,7 +229,7 @@ public final class GuardTest {
                     g.parameter(7, k, 1, false, k == 0 ? one : other);
                 }
                 Check.write(g, 7, Check.make(1, 4, 0), Check.go(1));
-                held("NEW with states " + one + " and " + other, g, 7, 1, 1, 4, 0, due[one][other]);
+                Check.held("NEW with states " + one + " and " + other, g, 7, 1, 1, 4, 0, due[one][other]);
             }
         }
     }
@@ -238,23 +239,23 @@ public final class GuardTest {
             MakerGuard g = new MakerGuard();
             g.parameter(6, 0, 5, true, state);
             Check.write(g, 6, Check.ifNull(0, 2), Check.go(1), Check.go(2));
-            held("IF NULL: there", g, 6, 2, 0, 5, 2, state);
-            held("IF NULL: behind", g, 6, 1, 0, 5, 0, state);
+            Check.held("IF NULL: there", g, 6, 2, 0, 5, 2, state);
+            Check.held("IF NULL: behind", g, 6, 1, 0, 5, 0, state);
         }
         MakerGuard g = new MakerGuard();
         g.parameter(6, 0, 5, true, 1);
         Check.write(g, 6, Check.ifNull(0, 1), Check.go(1));
-        held("IF NULL to the place behind", g, 6, 1, 0, 5, 1, 1);
+        Check.held("IF NULL to the place behind", g, 6, 1, 0, 5, 1, 1);
         good("IF NULL of nothing", false, 6, Check.ifNull(0, 1), Check.go(1));
     }
 
     private static void waysThatAreNone() {
-        MakerGuard g = of(6, Check.make(0, 1, 0), Check.ifNull(0, 3), Check.go(2), Check.go(3));
-        held("not null: there", g, 6, 3, 0, NO_WAY, NO_WAY, NO_WAY);
-        held("not null: behind", g, 6, 2, 0, 1, 0, 0);
-        g = of(6, Check.setNull(0), Check.ifNull(0, 3), Check.go(2), Check.go(3));
-        held("null: there", g, 6, 3, 0, -1, 2, 0);
-        held("null: behind", g, 6, 2, 0, NO_WAY, NO_WAY, NO_WAY);
+        MakerGuard g = Check.of(6, Check.make(0, 1, 0), Check.ifNull(0, 3), Check.go(2), Check.go(3));
+        Check.held("not null: there", g, 6, 3, 0, NO_WAY, NO_WAY, NO_WAY);
+        Check.held("not null: behind", g, 6, 2, 0, 1, 0, 0);
+        g = Check.of(6, Check.setNull(0), Check.ifNull(0, 3), Check.go(2), Check.go(3));
+        Check.held("null: there", g, 6, 3, 0, -1, 2, 0);
+        Check.held("null: behind", g, 6, 2, 0, NO_WAY, NO_WAY, NO_WAY);
         good("null is looked into where no way comes", true, 6, Check.setNull(0), Check.ifNull(0, 3), Check.get(1, 0, 0), Check.giveBack(0));
         good("the same with another place", false, 6, Check.setNull(0), Check.ifNull(0, 2), Check.get(1, 0, 0), Check.giveBack(0));
     }
@@ -274,30 +275,43 @@ public final class GuardTest {
         meeting("perhaps and null", Check.call(1, 0, 0), Check.setNull(1), 0, 1, 0);
     }
 
+    private static void nullsMeet() {
+        for (int order = 0; order < 2; order++) {
+            MakerGuard g = new MakerGuard();
+            g.parameter(6, 0, 5, true, 0);
+            g.parameter(6, 1, 4, true, 0);
+            int[] alone = Check.setNull(2);
+            int[] ofClass = Check.copy(2, 0);
+            Check.write(g, 6, Check.ifNull(0, 2), Check.go(1), Check.ifNull(1, 5), order == 0 ? alone : ofClass, Check.go(6),
+                    order == 0 ? ofClass : alone, Check.go(6));
+            Check.held("null alone and null of a class", g, 6, 6, 2, 5, 2, 0);
+        }
+    }
+
     /** Of maker 3: local 1 is set on two ways, that meet at place 5. */
     private static void meeting(String what, int[] one, int[] other, int... due) {
         MakerGuard g = new MakerGuard();
         g.parameter(3, 0, 5, true, 0);
         // NEW of class 3 is done with this parameter, as are makers without one.
         Check.write(g, 3, Check.ifNull(0, 3), one, Check.go(4), other, Check.copy(5, 0), Check.giveBack(0));
-        held("meet: " + what, g, 3, 5, 1, due);
-        held("meet: the parameter is as before", g, 3, 5, 0, 5, 1, 0);
+        Check.held("meet: " + what, g, 3, 5, 1, due);
+        Check.held("meet: the parameter is as before", g, 3, 5, 0, 5, 1, 0);
     }
 
     private static void waysMeetInLoops() {
         MakerGuard g = new MakerGuard();
         g.parameter(6, 0, 0, false, 0);
         Check.write(g, 6, Check.setNull(1), Check.copy(0, 0), Check.get(1, 0, 0), Check.go(1));
-        held("what goes round", g, 6, 1, 1, 0, 1, 0);
-        held("what goes round, further on", g, 6, 2, 1, 0, 1, 0);
+        Check.held("what goes round", g, 6, 1, 1, 0, 1, 0);
+        Check.held("what goes round, further on", g, 6, 2, 1, 0, 1, 0);
         good("a list is walked", true, walker(Check.ifNull(0, 3)));
         good("a list is walked blindly", false, walker(Check.go(1)));
-        g = of(6, Check.setNull(1), Check.go(0));
-        held("back at place 0, of what it begins with", g, 6, 0, 1, NOTHING, NOTHING, NOTHING);
-        held("back at place 0, behind", g, 6, 1, 1, -1, 2, 0);
+        g = Check.of(6, Check.setNull(1), Check.go(0));
+        Check.held("back at place 0, of what it begins with", g, 6, 0, 1, NOTHING, NOTHING, NOTHING);
+        Check.held("back at place 0, behind", g, 6, 1, 1, -1, 2, 0);
         g = backwards();
-        held("a change that goes back place by place", g, 6, 1, 0, 0, 1, 0);
-        held("the same at the last", g, 6, 39, 0, 0, 1, 0);
+        Check.held("a change that goes back place by place", g, 6, 1, 0, 0, 1, 0);
+        Check.held("the same at the last", g, 6, 39, 0, 0, 1, 0);
     }
 
     private static MakerGuard walker(int[] first) {
@@ -330,7 +344,7 @@ public final class GuardTest {
         }
         good("RETURN of nothing", false, 6, Check.giveBack(0));
         good("RETURN of null", true, 6, Check.setNull(0), Check.giveBack(0));
-        MakerGuard g = of(6, Check.setNull(0), Check.giveBack(0));
+        MakerGuard g = Check.of(6, Check.setNull(0), Check.giveBack(0));
         g.returns(0, 5, true, 1);
         good("RETURN of null as free", true, g);
         g.returns(0, 5, false, 1);
@@ -364,6 +378,13 @@ public final class GuardTest {
         g.parameter(2, 0, 2, true, 1);
         Check.write(g, 2, Check.put(7, 7, 1), Check.ifNull(0, 4), Check.put(7, 0, 3), Check.giveBack(0), Check.giveBack(0));
         good("both fields on one way alone", false, g, 2);
+        g = new MakerGuard();
+        g.parameter(0, 0, 0, true, 0);
+        Check.write(g, 0, Check.ifNull(0, 5), Check.setNull(0), Check.put(7, 7, 0), Check.copy(0, 0), Check.giveBack(0),
+                Check.setNull(0), Check.go(3));
+        Check.due("ways that differ in fields alone, the second one late", g.fields(0, 4), 0);
+        g.field(0, 0, 0, false);
+        good("ways that differ in fields alone, the second one late", false, g, 0);
     }
 
     private static void fieldsOfAllWays() {
@@ -375,26 +396,26 @@ public final class GuardTest {
         for (int place = 0; place < due.length; place++) {
             Check.due("fields at " + place, g.fields(5, place), due[place]);
         }
-        g = of(0, Check.put(7, 7, 0), Check.put(7, 7, 3), Check.go(1));
+        g = Check.of(0, Check.put(7, 7, 0), Check.put(7, 7, 3), Check.go(1));
         Check.due("fields in a loop", g.fields(0, 1), 1);
         Check.due("fields in a loop, behind", g.fields(0, 2), 9);
-        g = of(0, Check.put(7, 7, 2), Check.go(0));
+        g = Check.of(0, Check.put(7, 7, 2), Check.go(0));
         Check.due("fields back at place 0", g.fields(0, 0), 0);
-        g = of(0, Check.copy(0, 7), Check.put(0, 7, 2), Check.go(2));
+        g = Check.of(0, Check.copy(0, 7), Check.put(0, 7, 2), Check.go(2));
         Check.due("fields PUT to another local", g.fields(0, 2), 0);
     }
 
     private static void placesThatNoWayComesTo() {
-        MakerGuard g = of(0, Check.giveBack(0), Check.get(7, 3, 0), Check.copy(1, 2));
+        MakerGuard g = Check.of(0, Check.giveBack(0), Check.get(7, 3, 0), Check.copy(1, 2));
         good("what no way comes to does not matter", true, g, 0);
         for (int place = 1; place < 3; place++) {
-            held("no way", g, 0, place, 7, NO_WAY, NO_WAY, NO_WAY);
+            Check.held("no way", g, 0, place, 7, NO_WAY, NO_WAY, NO_WAY);
             Check.due("no way: fields", g.fields(0, place), MakerGuard.NONE);
         }
     }
 
     private static void verdictsFollowDeclarations() {
-        MakerGuard g = of(6, Check.make(0, 1, 0), Check.get(1, 0, 0), Check.get(2, 1, 0), Check.giveBack(2));
+        MakerGuard g = Check.of(6, Check.make(0, 1, 0), Check.get(1, 0, 0), Check.get(2, 1, 0), Check.giveBack(2));
         good("a field that may be null", false, g);
         g.field(1, 0, 2, false);
         good("that may not", true, g);
@@ -407,11 +428,14 @@ public final class GuardTest {
         good("RETURN of another class", false, g);
         g.returns(0, 3, true, 0);
         good("as declared", true, g);
-        held("two bodies in turn", g, 6, 1, 0, 1, 0, 0);
+        Check.held("two bodies in turn", g, 6, 1, 0, 1, 0, 0);
         Check.write(g, 3, Check.giveBack(0));
-        held("two bodies in turn", g, 3, 0, 7, 3, 0, 1);
-        held("two bodies in turn", g, 6, 2, 1, 2, 0, 0);
+        Check.held("two bodies in turn", g, 3, 0, 7, 3, 0, 1);
+        Check.held("two bodies in turn", g, 6, 2, 1, 2, 0, 0);
         Check.due("two bodies in turn", g.fields(3, 0), 0);
+        Check.held("two bodies in turn", g, 6, 1, 0, 1, 0, 0);
+        Check.held("two bodies in turn", g, 3, 0, 7, 3, 0, 1);
+        Check.held("two bodies in turn", g, 3, 0, 0, NOTHING, NOTHING, NOTHING);
     }
 
     private static void counts() {
@@ -430,14 +454,8 @@ public final class GuardTest {
         Check.due("count(0) with one that is not good", g.count(0), 23);
     }
 
-    private static MakerGuard of(int body, int[]... instructions) {
-        MakerGuard g = new MakerGuard();
-        Check.write(g, body, instructions);
-        return g;
-    }
-
     private static void good(String what, boolean due, int body, int[]... instructions) {
-        good(what, due, of(body, instructions), body);
+        good(what, due, Check.of(body, instructions), body);
     }
 
     private static void good(String what, boolean due, MakerGuard g) {
@@ -446,11 +464,5 @@ public final class GuardTest {
 
     private static void good(String what, boolean due, MakerGuard g, int body) {
         Check.due(what + ": good", g.good(body), due);
-    }
-
-    private static void held(String what, MakerGuard g, int body, int place, int local, int... due) {
-        for (int k = 0; k < 3; k++) {
-            Check.due(what + ", what " + k, g.holds(body, place, local, k), due[k]);
-        }
     }
 }

@@ -24,7 +24,7 @@ public final class MachineTest {
     }
 
     private static void startBegins() {
-        MakerGuard g = of(8, Check.setNull(0), Check.giveBack(0));
+        MakerGuard g = Check.of(8, Check.setNull(0), Check.giveBack(0));
         g.start(2);
         states("started", g, 0, 0, 1, 8, 0, 0, -1);
         for (int k = 0; k < 8; k++) {
@@ -36,7 +36,7 @@ public final class MachineTest {
     }
 
     private static void startAnew() {
-        MakerGuard g = of(6, Check.make(3, 1, 0), Check.put(3, 3, 0), Check.giveBack(3));
+        MakerGuard g = Check.of(6, Check.make(3, 1, 0), Check.put(3, 3, 0), Check.giveBack(3));
         Check.write(g, 1, Check.giveBack(0));
         g.start(0);
         g.run(1000);
@@ -50,7 +50,7 @@ public final class MachineTest {
     }
 
     private static void everyOrderIsAStep() {
-        MakerGuard g = of(6, Check.make(0, 2, 0), Check.copy(1, 0), Check.put(1, 0, 3), Check.setNull(0),
+        MakerGuard g = Check.of(6, Check.make(0, 2, 0), Check.copy(1, 0), Check.put(1, 0, 3), Check.setNull(0),
                 Check.get(2, 1, 3), Check.ifNull(2, 0), Check.ifNull(0, 8), Check.go(0), Check.go(9), Check.call(4, 1, 0),
                 Check.giveBack(2));
         Check.write(g, 2, Check.giveBack(0));
@@ -76,7 +76,7 @@ public final class MachineTest {
     }
 
     private static void runStopsWhereToldTo() {
-        MakerGuard g = of(6, Check.go(0));
+        MakerGuard g = Check.of(6, Check.go(0));
         g.start(0);
         Check.due("run(0)", g.run(0), 0);
         Check.due("run(1000)", g.run(1000), 1000);
@@ -85,7 +85,7 @@ public final class MachineTest {
     }
 
     private static void makersRunInFrames() {
-        MakerGuard g = of(6, Check.make(5, 0, 0), Check.giveBack(5));
+        MakerGuard g = Check.of(6, Check.make(5, 0, 0), Check.giveBack(5));
         Check.write(g, 0, Check.make(2, 1, 0), Check.put(7, 2, 1), Check.giveBack(2));
         Check.write(g, 1, Check.setNull(3), Check.giveBack(3));
         g.start(0);
@@ -107,7 +107,7 @@ public final class MachineTest {
     }
 
     private static void makerMayLoseItsSelf() {
-        MakerGuard g = of(6, Check.make(0, 3, 0), Check.make(1, 4, 0), Check.giveBack(1));
+        MakerGuard g = Check.of(6, Check.make(0, 3, 0), Check.make(1, 4, 0), Check.giveBack(1));
         Check.write(g, 3, Check.setNull(7), Check.giveBack(7));
         Check.write(g, 4, Check.make(7, 3, 0), Check.giveBack(7));
         g.start(0);
@@ -118,7 +118,7 @@ public final class MachineTest {
     }
 
     private static void functionsAreCalled() {
-        MakerGuard g = of(6, Check.make(0, 0, 0), Check.call(0, 1, 0), Check.giveBack(0));
+        MakerGuard g = Check.of(6, Check.make(0, 0, 0), Check.call(0, 1, 0), Check.giveBack(0));
         Check.write(g, 0, Check.giveBack(0));
         Check.write(g, 7, Check.setNull(6), Check.giveBack(6));
         g.start(0);
@@ -129,7 +129,7 @@ public final class MachineTest {
     }
 
     private static void parametersAreGiven() {
-        MakerGuard g = of(6, Check.make(3, 0, 0), Check.make(4, 1, 0), Check.make(5, 2, 3), Check.call(0, 1, 3), Check.giveBack(0));
+        MakerGuard g = Check.of(6, Check.make(3, 0, 0), Check.make(4, 1, 0), Check.make(5, 2, 3), Check.call(0, 1, 3), Check.giveBack(0));
         for (int k = 0; k < 3; k++) {
             g.parameter(2, k, 0, true, 0);
         }
@@ -155,7 +155,7 @@ public final class MachineTest {
     }
 
     private static void parametersBehindTheLastLocalAreNull() {
-        MakerGuard g = of(6, Check.make(6, 0, 0), Check.copy(7, 6), Check.call(0, 1, 6), Check.call(0, 1, 7), Check.giveBack(0));
+        MakerGuard g = Check.of(6, Check.make(6, 0, 0), Check.copy(7, 6), Check.call(0, 1, 6), Check.call(0, 1, 7), Check.giveBack(0));
         Check.write(g, 0, Check.giveBack(0));
         Check.write(g, 7, Check.giveBack(0));
         for (int k = 0; k < 3; k++) {
@@ -173,7 +173,7 @@ public final class MachineTest {
     }
 
     private static void localsAreNullAtFirst() {
-        MakerGuard g = of(6, Check.make(0, 0, 0), Check.call(1, 1, 0), Check.call(1, 1, 0), Check.giveBack(1));
+        MakerGuard g = Check.of(6, Check.make(0, 0, 0), Check.call(1, 1, 0), Check.call(1, 1, 0), Check.giveBack(1));
         Check.write(g, 0, Check.giveBack(0));
         Check.write(g, 7, Check.ifNull(3, 2), Check.go(1), Check.make(3, 0, 0), Check.copy(7, 3), Check.giveBack(3));
         g.start(0);
@@ -204,7 +204,7 @@ public final class MachineTest {
     }
 
     private static void nothingIsLookedAt() {
-        MakerGuard g = of(6, Check.make(0, 0, 0), Check.make(1, 1, 0), Check.put(0, 1, 2), Check.get(7, 0, 2), Check.giveBack(7));
+        MakerGuard g = Check.of(6, Check.make(0, 0, 0), Check.make(1, 1, 0), Check.put(0, 1, 2), Check.get(7, 0, 2), Check.giveBack(7));
         g.field(0, 2, 5, false);
         g.returns(0, 4, false, 1);
         Check.write(g, 0, Check.giveBack(0));
@@ -216,17 +216,17 @@ public final class MachineTest {
     }
 
     private static void fieldOfNull() {
-        MakerGuard g = of(6, Check.setNull(0), Check.get(1, 0, 0), Check.giveBack(1));
+        MakerGuard g = Check.of(6, Check.setNull(0), Check.get(1, 0, 0), Check.giveBack(1));
         g.start(0);
         Check.due("GET", g.run(1000), 1);
         states("GET", g, 2, 1, 1, 6, 1, 0, -1);
-        g = of(6, Check.make(1, 0, 0), Check.put(0, 1, 0), Check.giveBack(1));
+        g = Check.of(6, Check.make(1, 0, 0), Check.put(0, 1, 0), Check.giveBack(1));
         Check.write(g, 0, Check.giveBack(0));
         g.start(0);
         Check.due("PUT", g.run(1000), 2);
         states("PUT", g, 2, 2, 1, 6, 1, 1, -1);
         Check.due("locals stay", g.local(1), 0);
-        g = of(6, Check.make(1, 0, 0), Check.put(1, 0, 0), Check.get(1, 1, 0), Check.giveBack(1));
+        g = Check.of(6, Check.make(1, 0, 0), Check.put(1, 0, 0), Check.get(1, 1, 0), Check.giveBack(1));
         Check.write(g, 0, Check.giveBack(0));
         g.start(0);
         Check.due("PUT of null, GET of null", g.run(1000), 5);
@@ -234,7 +234,7 @@ public final class MachineTest {
     }
 
     private static void sixtyFirstObject() {
-        MakerGuard g = of(6, Check.make(0, 0, 0), Check.go(0));
+        MakerGuard g = Check.of(6, Check.make(0, 0, 0), Check.go(0));
         Check.write(g, 0, Check.giveBack(0));
         g.start(0);
         Check.due("steps", g.run(180), 180);
@@ -247,13 +247,13 @@ public final class MachineTest {
     }
 
     private static void twentyFirstFrame() {
-        MakerGuard g = of(6, Check.call(0, 0, 0), Check.giveBack(0));
+        MakerGuard g = Check.of(6, Check.call(0, 0, 0), Check.giveBack(0));
         g.start(0);
         Check.due("steps", g.run(19), 19);
         states("twenty", g, 0, 19, 20, 6, 0, 0, -1);
         Check.due("a twenty-first", g.run(1), 0);
         states("a twenty-first", g, 4, 19, 20, 6, 0, 0, -1);
-        g = of(6, Check.make(0, 0, 0), Check.giveBack(0));
+        g = Check.of(6, Check.make(0, 0, 0), Check.giveBack(0));
         Check.write(g, 0, Check.make(0, 0, 0), Check.giveBack(0));
         g.start(0);
         Check.due("steps of makers", g.run(1000), 19);
@@ -264,7 +264,7 @@ public final class MachineTest {
 
     /** First 41 objects, then one more with each of 19 makers in one another. */
     private static void objectAheadOfFrame() {
-        MakerGuard g = of(6, Check.make(0, 3, 0));
+        MakerGuard g = Check.of(6, Check.make(0, 3, 0));
         for (int k = 0; k < 20; k++) {
             Check.write(g, 6, Check.make(0, 1, 0));
         }
@@ -285,21 +285,21 @@ public final class MachineTest {
         Check.due("not yet", g.state(0), 0);
         Check.due("run(1)", g.run(1), 0);
         states("an empty body", g, 5, 0, 1, 11, 0, 0, -1);
-        g = of(6, Check.setNull(0));
+        g = Check.of(6, Check.setNull(0));
         g.start(0);
         Check.due("over the end", g.run(9), 1);
         states("over the end", g, 5, 1, 1, 6, 1, 0, -1);
         for (int place : new int[] {-1, 1, 40, Integer.MIN_VALUE, Integer.MAX_VALUE}) {
-            g = of(6, Check.go(place));
+            g = Check.of(6, Check.go(place));
             g.start(0);
             Check.due("GO away", g.run(9), 1);
             states("GO away", g, 5, 1, 1, 6, place, 0, -1);
-            g = of(6, Check.ifNull(0, place));
+            g = Check.of(6, Check.ifNull(0, place));
             g.start(0);
             Check.due("IF NULL away", g.run(9), 1);
             states("IF NULL away", g, 5, 1, 1, 6, place, 0, -1);
         }
-        g = of(6, Check.make(0, 3, 0));
+        g = Check.of(6, Check.make(0, 3, 0));
         g.start(0);
         Check.due("into an empty maker", g.run(9), 1);
         states("into an empty maker", g, 5, 1, 2, 3, 0, 1, -1);
@@ -307,7 +307,7 @@ public final class MachineTest {
     }
 
     private static void troubleStays() {
-        MakerGuard g = of(6, Check.get(0, 0, 0));
+        MakerGuard g = Check.of(6, Check.get(0, 0, 0));
         g.start(0);
         for (int k = 0; k < 3; k++) {
             Check.due("run", g.run(5), 0);
@@ -318,7 +318,7 @@ public final class MachineTest {
     }
 
     private static void end() {
-        MakerGuard g = of(6, Check.make(0, 0, 0), Check.giveBack(0));
+        MakerGuard g = Check.of(6, Check.make(0, 0, 0), Check.giveBack(0));
         Check.write(g, 0, Check.giveBack(0));
         g.start(0);
         Check.due("all but the last", g.run(2), 2);
@@ -329,12 +329,6 @@ public final class MachineTest {
         states("ended", g, 1, 3, 0, -1, -1, 1, 0);
         Check.refused("no locals", g, Check.NO_SUCH, x -> x.local(0));
         Check.due("but objects", g.object(0, 4), 0);
-    }
-
-    private static MakerGuard of(int body, int[]... instructions) {
-        MakerGuard g = new MakerGuard();
-        Check.write(g, body, instructions);
-        return g;
     }
 
     private static void states(String what, MakerGuard g, int... due) {

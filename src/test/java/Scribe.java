@@ -74,7 +74,7 @@ final class Scribe {
         code.clear();
         int size = 1 + below(below(8) == 0 ? 40 : 9);
         if (body < 6 && below(2) == 0) {
-            putFields(o, body, code, classes);
+            putFields(o, body, code);
         }
         while (code.size() < size - 1) {
             code.add(instruction(size, classes, body));
@@ -82,7 +82,7 @@ final class Scribe {
         code.add(below(4) == 0 ? new int[] {6, 0, below(size), 0} : new int[] {8, local(body), 0, 0});
     }
 
-    private void putFields(Oracle o, int body, List<int[]> code, int classes) {
+    private void putFields(Oracle o, int body, List<int[]> code) {
         for (int k = 0; k < 4; k++) {
             if (!o.fields[body][k].nullable()) {
                 int c = o.fields[body][k].c();
@@ -118,7 +118,7 @@ final class Scribe {
         return k < 9 ? k % 3 : k < 11 ? 7 : below(8);
     }
 
-    /** Into a new object, in a random order of bodies; answers how many calls that took. */
+    /** Into a new object, the bodies in the order given; answers how many calls that took. */
     int hand(Oracle o, MakerGuard g, List<Integer> bodies) {
         int calls = 0;
         for (int c = 0; c < 6; c++) {

@@ -84,10 +84,9 @@ public final class MakerGuard {
 
     public int add(int body, int order, int x, int y, int z)
             throws NoSuchElementException, IllegalArgumentException, IllegalStateException {
-        mustBeThere(isBelow(body, BODIES));
-        // What has to be there depends on the order, so an order that is none is told first.
+        // All that is not there is told first: x has to be a local even if the order is none.
+        mustBeThere(isBelow(body, BODIES) && hasRightNumbers(order, x, y, z));
         mustBeKnown(isBelow(order, RETURN + 1));
-        mustBeThere(hasRightNumbers(order, x, y, z));
         Body longer = program.bodies[body];
         mustBeReady(longer.size < PLACES);
         longer.append(order, x, y, z);

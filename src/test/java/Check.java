@@ -11,6 +11,11 @@ final class Check {
         void on(MakerGuard guard);
     }
 
+    /** A call of MakerGuard that answers a number. */
+    interface Ask {
+        long of(MakerGuard guard);
+    }
+
     private static final int TOLD_AT_MOST = 40;
     private static int looked = 0;
     private static int wrong = 0;
@@ -49,6 +54,15 @@ final class Check {
         }
     }
 
+    /** What a call answers, or the name of what it throws. */
+    static String told(MakerGuard guard, Ask ask) {
+        try {
+            return Long.toString(ask.of(guard));
+        } catch (RuntimeException e) {
+            return e.getClass().getSimpleName();
+        }
+    }
+
     /** Instructions of four numbers: order, x, y, z. */
     static void write(MakerGuard guard, int body, int[]... instructions) {
         for (int[] i : instructions) {
@@ -66,6 +80,19 @@ final class Check {
     static void held(String what, MakerGuard guard, int body, int place, int local, int... due) {
         for (int k = 0; k < 3; k++) {
             due(what + ", what " + k, guard.holds(body, place, local, k), due[k]);
+        }
+    }
+
+    /** All that state() tells: due are its seven answers. */
+    static void states(String what, MakerGuard guard, int... due) {
+        for (int k = 0; k < 7; k++) {
+            due(what + ": state(" + k + ")", guard.state(k), due[k]);
+        }
+    }
+
+    static void locals(String what, MakerGuard guard, int... due) {
+        for (int k = 0; k < 8; k++) {
+            due(what + ": local(" + k + ")", guard.local(k), due[k]);
         }
     }
 

@@ -26,7 +26,7 @@ public final class MachineTest {
     private static void startBegins() {
         MakerGuard g = Check.of(8, Check.setNull(0), Check.giveBack(0));
         g.start(2);
-        states("started", g, 0, 0, 1, 8, 0, 0, -1);
+        Check.states("started", g, 0, 0, 1, 8, 0, 0, -1);
         for (int k = 0; k < 8; k++) {
             Check.due("started: local " + k, g.local(k), -1);
         }
@@ -40,9 +40,9 @@ public final class MachineTest {
         Check.write(g, 1, Check.giveBack(0));
         g.start(0);
         g.run(1000);
-        states("first run", g, 1, 4, 0, -1, -1, 1, 0);
+        Check.states("first run", g, 1, 4, 0, -1, -1, 1, 0);
         g.start(0);
-        states("second run", g, 0, 0, 1, 6, 0, 0, -1);
+        Check.states("second run", g, 0, 0, 1, 6, 0, 0, -1);
         Check.due("its local", g.local(3), -1);
         Check.refused("its objects", g, Check.NO_SUCH, x -> x.object(0, 0));
         g.run(2);
@@ -72,7 +72,7 @@ public final class MachineTest {
         Check.due("field 0", g.object(0, 0), -1);
         Check.due("class", g.object(0, 4), 2);
         Check.due("the last step", g.run(1000), 1);
-        states("ended", g, 1, 12, 0, -1, -1, 1, 0);
+        Check.states("ended", g, 1, 12, 0, -1, -1, 1, 0);
     }
 
     private static void runStopsWhereToldTo() {
@@ -81,7 +81,7 @@ public final class MachineTest {
         Check.due("run(0)", g.run(0), 0);
         Check.due("run(1000)", g.run(1000), 1000);
         Check.due("run(7)", g.run(7), 7);
-        states("runs on", g, 0, 1007, 1, 6, 0, 0, -1);
+        Check.states("runs on", g, 0, 1007, 1, 6, 0, 0, -1);
     }
 
     private static void makersRunInFrames() {
@@ -90,16 +90,16 @@ public final class MachineTest {
         Check.write(g, 1, Check.setNull(3), Check.giveBack(3));
         g.start(0);
         g.run(1);
-        states("in the first maker", g, 0, 1, 2, 0, 0, 1, -1);
+        Check.states("in the first maker", g, 0, 1, 2, 0, 0, 1, -1);
         Check.due("SELF", g.local(7), 0);
         g.run(1);
-        states("in the second maker", g, 0, 2, 3, 1, 0, 2, -1);
+        Check.states("in the second maker", g, 0, 2, 3, 1, 0, 2, -1);
         Check.due("SELF", g.local(7), 1);
         g.run(2);
-        states("back in the first maker", g, 0, 4, 2, 0, 1, 2, -1);
+        Check.states("back in the first maker", g, 0, 4, 2, 0, 1, 2, -1);
         Check.due("what was made", g.local(2), 1);
         g.run(2);
-        states("back in the function", g, 0, 6, 1, 6, 1, 2, -1);
+        Check.states("back in the function", g, 0, 6, 1, 6, 1, 2, -1);
         Check.due("a maker gives its object, not its local", g.local(5), 0);
         Check.due("field 1", g.object(0, 1), 1);
         Check.due("class of 0", g.object(0, 4), 0);
@@ -123,9 +123,9 @@ public final class MachineTest {
         Check.write(g, 7, Check.setNull(6), Check.giveBack(6));
         g.start(0);
         g.run(3);
-        states("called", g, 0, 3, 2, 7, 0, 1, -1);
+        Check.states("called", g, 0, 3, 2, 7, 0, 1, -1);
         Check.due("rest", g.run(1000), 3);
-        states("a null was returned", g, 1, 6, 0, -1, -1, 1, -1);
+        Check.states("a null was returned", g, 1, 6, 0, -1, -1, 1, -1);
     }
 
     private static void parametersAreGiven() {
@@ -219,12 +219,12 @@ public final class MachineTest {
         MakerGuard g = Check.of(6, Check.setNull(0), Check.get(1, 0, 0), Check.giveBack(1));
         g.start(0);
         Check.due("GET", g.run(1000), 1);
-        states("GET", g, 2, 1, 1, 6, 1, 0, -1);
+        Check.states("GET", g, 2, 1, 1, 6, 1, 0, -1);
         g = Check.of(6, Check.make(1, 0, 0), Check.put(0, 1, 0), Check.giveBack(1));
         Check.write(g, 0, Check.giveBack(0));
         g.start(0);
         Check.due("PUT", g.run(1000), 2);
-        states("PUT", g, 2, 2, 1, 6, 1, 1, -1);
+        Check.states("PUT", g, 2, 2, 1, 6, 1, 1, -1);
         Check.due("locals stay", g.local(1), 0);
         g = Check.of(6, Check.make(1, 0, 0), Check.put(1, 0, 0), Check.get(1, 1, 0), Check.giveBack(1));
         Check.write(g, 0, Check.giveBack(0));
@@ -238,9 +238,9 @@ public final class MachineTest {
         Check.write(g, 0, Check.giveBack(0));
         g.start(0);
         Check.due("steps", g.run(180), 180);
-        states("sixty", g, 0, 180, 1, 6, 0, 60, -1);
+        Check.states("sixty", g, 0, 180, 1, 6, 0, 60, -1);
         Check.due("a sixty-first", g.run(1), 0);
-        states("a sixty-first", g, 3, 180, 1, 6, 0, 60, -1);
+        Check.states("a sixty-first", g, 3, 180, 1, 6, 0, 60, -1);
         Check.due("local 0", g.local(0), 59);
         Check.due("the last object", g.object(59, 4), 0);
         Check.refused("the next one", g, Check.NO_SUCH, x -> x.object(60, 4));
@@ -250,14 +250,14 @@ public final class MachineTest {
         MakerGuard g = Check.of(6, Check.call(0, 0, 0), Check.giveBack(0));
         g.start(0);
         Check.due("steps", g.run(19), 19);
-        states("twenty", g, 0, 19, 20, 6, 0, 0, -1);
+        Check.states("twenty", g, 0, 19, 20, 6, 0, 0, -1);
         Check.due("a twenty-first", g.run(1), 0);
-        states("a twenty-first", g, 4, 19, 20, 6, 0, 0, -1);
+        Check.states("a twenty-first", g, 4, 19, 20, 6, 0, 0, -1);
         g = Check.of(6, Check.make(0, 0, 0), Check.giveBack(0));
         Check.write(g, 0, Check.make(0, 0, 0), Check.giveBack(0));
         g.start(0);
         Check.due("steps of makers", g.run(1000), 19);
-        states("a twenty-first of a maker", g, 4, 19, 20, 0, 0, 19, -1);
+        Check.states("a twenty-first of a maker", g, 4, 19, 20, 0, 0, 19, -1);
         Check.due("SELF", g.local(7), 18);
         Check.refused("no object was made", g, Check.NO_SUCH, x -> x.object(19, 4));
     }
@@ -274,35 +274,35 @@ public final class MachineTest {
         Check.write(g, 3, Check.giveBack(0));
         g.start(0);
         Check.due("steps", g.run(1000), 2 + 20 * 4 + 19);
-        states("no room for an object, nor for a frame", g, 3, 101, 20, 2, 0, 60, -1);
+        Check.states("no room for an object, nor for a frame", g, 3, 101, 20, 2, 0, 60, -1);
     }
 
     private static void placeNotThere() {
         MakerGuard g = new MakerGuard();
         g.start(5);
-        states("an empty body", g, 0, 0, 1, 11, 0, 0, -1);
+        Check.states("an empty body", g, 0, 0, 1, 11, 0, 0, -1);
         Check.due("run(0)", g.run(0), 0);
         Check.due("not yet", g.state(0), 0);
         Check.due("run(1)", g.run(1), 0);
-        states("an empty body", g, 5, 0, 1, 11, 0, 0, -1);
+        Check.states("an empty body", g, 5, 0, 1, 11, 0, 0, -1);
         g = Check.of(6, Check.setNull(0));
         g.start(0);
         Check.due("over the end", g.run(9), 1);
-        states("over the end", g, 5, 1, 1, 6, 1, 0, -1);
+        Check.states("over the end", g, 5, 1, 1, 6, 1, 0, -1);
         for (int place : new int[] {-1, 1, 40, Integer.MIN_VALUE, Integer.MAX_VALUE}) {
             g = Check.of(6, Check.go(place));
             g.start(0);
             Check.due("GO away", g.run(9), 1);
-            states("GO away", g, 5, 1, 1, 6, place, 0, -1);
+            Check.states("GO away", g, 5, 1, 1, 6, place, 0, -1);
             g = Check.of(6, Check.ifNull(0, place));
             g.start(0);
             Check.due("IF NULL away", g.run(9), 1);
-            states("IF NULL away", g, 5, 1, 1, 6, place, 0, -1);
+            Check.states("IF NULL away", g, 5, 1, 1, 6, place, 0, -1);
         }
         g = Check.of(6, Check.make(0, 3, 0));
         g.start(0);
         Check.due("into an empty maker", g.run(9), 1);
-        states("into an empty maker", g, 5, 1, 2, 3, 0, 1, -1);
+        Check.states("into an empty maker", g, 5, 1, 2, 3, 0, 1, -1);
         Check.due("SELF", g.local(7), 0);
     }
 
@@ -324,16 +324,10 @@ public final class MachineTest {
         Check.due("all but the last", g.run(2), 2);
         Check.due("nothing is returned yet", g.state(6), -1);
         Check.due("the last", g.run(1), 1);
-        states("ended", g, 1, 3, 0, -1, -1, 1, 0);
+        Check.states("ended", g, 1, 3, 0, -1, -1, 1, 0);
         Check.due("no more", g.run(1000), 0);
-        states("ended", g, 1, 3, 0, -1, -1, 1, 0);
+        Check.states("ended", g, 1, 3, 0, -1, -1, 1, 0);
         Check.refused("no locals", g, Check.NO_SUCH, x -> x.local(0));
         Check.due("but objects", g.object(0, 4), 0);
-    }
-
-    private static void states(String what, MakerGuard g, int... due) {
-        for (int k = 0; k < 7; k++) {
-            Check.due(what + ": state(" + k + ")", g.state(k), due[k]);
-        }
     }
 }

@@ -4,6 +4,7 @@
  */
 public final class BoundsTest {
     public static void main(String[] args) {
+        newObject();
         classesAndFields();
         makersAndFunctions();
         parametersAreThreeAtMost();
@@ -23,6 +24,31 @@ public final class BoundsTest {
         counts();
         fiveHundredAndTwelveCalls();
         Check.finish();
+    }
+
+    // "Bodies without instructions and parameters": what the very first call of an object answers
+    private static void newObject() {
+        for (int k = 0; k < 12; k++) {
+            int body = k;
+            Check.due("clear", new MakerGuard().clear(body), 0);
+            Check.due("good", new MakerGuard().good(body), false);
+            Check.refused("holds", new MakerGuard(), Check.NO_SUCH, x -> x.holds(body, 0, 0, 0));
+            Check.refused("fields", new MakerGuard(), Check.NO_SUCH, x -> x.fields(body, 0));
+            Check.refused("parameter 1", new MakerGuard(), Check.STATE, x -> x.parameter(body, 1, 0, true, 0));
+            Check.due("parameter 0", new MakerGuard().parameter(body, 0, 0, true, 0), 1);
+            Check.due("add", new MakerGuard().add(body, 6, 0, 0, 0), 1);
+        }
+        for (int n : new int[] {0, 1, 1000}) {
+            Check.refused("run", new MakerGuard(), Check.STATE, x -> x.run(n));
+        }
+        for (int k = 0; k < 7; k++) {
+            int number = k;
+            Check.refused("state", new MakerGuard(), Check.STATE, x -> x.state(number));
+            Check.refused("local", new MakerGuard(), Check.NO_SUCH, x -> x.local(number));
+            Check.refused("object", new MakerGuard(), Check.NO_SUCH, x -> x.object(0, number));
+        }
+        Check.due("count(0)", new MakerGuard().count(0), 0);
+        Check.due("count(1)", new MakerGuard().count(1), 0);
     }
 
     // "CLASSES are 0 .. 5, each with FIELDS 0 .. 3; a field has a class, and is NULLABLE or not"

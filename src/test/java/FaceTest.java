@@ -10,20 +10,20 @@ import java.util.List;
 /** The face is the document's, and nothing beside it can be seen from outside. */
 public final class FaceTest {
     private static final List<String> FACE = List.of(
-            "void field(int, int, int, boolean)",
-            "int parameter(int, int, int, boolean, int)",
-            "void returns(int, int, boolean, int)",
-            "int add(int, int, int, int, int)",
-            "int clear(int)",
-            "boolean good(int)",
-            "int holds(int, int, int, int)",
-            "int fields(int, int)",
-            "void start(int)",
-            "int run(int)",
-            "int state(int)",
-            "int local(int)",
-            "int object(int, int)",
-            "int count(int)");
+            "void field(int, int, int, boolean) throws NoSuchElementException",
+            "int parameter(int, int, int, boolean, int) throws NoSuchElementException, IllegalStateException",
+            "void returns(int, int, boolean, int) throws NoSuchElementException",
+            "int add(int, int, int, int, int) throws NoSuchElementException, IllegalArgumentException, IllegalStateException",
+            "int clear(int) throws NoSuchElementException",
+            "boolean good(int) throws NoSuchElementException",
+            "int holds(int, int, int, int) throws NoSuchElementException, IllegalArgumentException, IllegalStateException",
+            "int fields(int, int) throws NoSuchElementException, IllegalStateException",
+            "void start(int) throws NoSuchElementException, IllegalStateException",
+            "int run(int) throws IllegalArgumentException, IllegalStateException",
+            "int state(int) throws IllegalArgumentException, IllegalStateException",
+            "int local(int) throws NoSuchElementException",
+            "int object(int, int) throws NoSuchElementException",
+            "int count(int) throws IllegalArgumentException");
 
     public static void main(String[] args) {
         Class<?> c = MakerGuard.class;
@@ -49,11 +49,19 @@ public final class FaceTest {
         List<String> found = new ArrayList<>();
         for (Method m : c.getDeclaredMethods()) {
             if (!Modifier.isPrivate(m.getModifiers())) {
-                String types = Arrays.toString(m.getParameterTypes());
-                found.add(m.getReturnType() + " " + m.getName() + "(" + types.substring(1, types.length() - 1) + ")");
+                found.add(m.getReturnType() + " " + m.getName() + "(" + names(m.getParameterTypes()) + ") throws "
+                        + names(m.getExceptionTypes()));
             }
         }
         return found;
+    }
+
+    private static String names(Class<?>[] types) {
+        List<String> names = new ArrayList<>();
+        for (Class<?> type : types) {
+            names.add(type.getSimpleName());
+        }
+        return String.join(", ", names);
     }
 
     private static List<Field> visibleFields(Class<?> c) {

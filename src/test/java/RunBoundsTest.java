@@ -250,7 +250,7 @@ public final class RunBoundsTest {
         Check.due("frames", g.state(2), 1);
     }
 
-    // "(... frames, places and locals stay as they are)": of all four troubles, in a frame of its own
+    // "(... frames, places and locals stay as they are)": of troubles 2 and 5, in a frame that was called
     private static void troubleLeavesAllAsItWas() {
         stays("GET of null", 2, Check.get(0, 3, 2));
         stays("GET of null to itself", 2, Check.get(3, 3, 2));

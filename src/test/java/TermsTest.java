@@ -19,10 +19,13 @@ public final class TermsTest {
         parameterFits();
         returnFits();
         stateOfNew();
+        otherLocalsAreNoParameters();
         callHoldsAsDeclared();
         ifNull();
         twoWaysMeet();
         threeWaysMeet();
+        waysGoOnFromThere();
+        fieldsGoOnFromThere();
         fieldsOfTwoWaysMeet();
         makerReturns();
         Check.finish();
@@ -179,6 +182,22 @@ public final class TermsTest {
         h.due("NEW with " + List.of(given), h.end(), 3, new Holder.Held(5, 0, allDone ? 0 : oneFree ? 1 : 2));
     }
 
+    // "with parameters of locals z, z + 1, ..": those just ahead and just behind are none
+    private static void otherLocalsAreNoParameters() {
+        for (int order : new int[] {2, 7}) {
+            for (int has = 0; has <= 2; has++) {
+                Holder h = new Holder().hold(6, new Holder.Held(OTHER, 0, 1)).then(Check.copy(3, 6), Check.copy(4 + has, 6));
+                for (int k = 0; k < has; k++) {
+                    h.g.parameter(order == 2 ? 5 : 11, k, ONE, false, 0);
+                    h.hold(4 + k, new Holder.Held(ONE, 0, 0));
+                }
+                h.g.returns(5, 5, false, 0);
+                h.then(new int[] {order, 7, 5, 4});
+                h.due("order " + order + " with " + has + " parameters among free locals", h.end(), 7, new Holder.Held(5, 0, 0));
+            }
+        }
+    }
+
     // "of CALL: as declared", whatever is given
     private static void callHoldsAsDeclared() {
         for (int k = 0; k < 36; k++) {
@@ -261,6 +280,42 @@ public final class TermsTest {
         h.then(Check.call(7, 5, 0), Check.ifNull(7, from + 8), Check.call(7, 5, 0), Check.ifNull(7, from + 6), move(6, 3, a),
                 Check.go(meeting), move(6, 4, b), Check.go(meeting), move(6, 5, c), Check.go(meeting));
         h.due("three ways " + a + ", " + b + ", " + c, meeting, 6, met(met(a, b), c));
+    }
+
+    // "Ways go on from there with that.": one way has gone on already when the other comes from behind,
+    // and nothing but local 6 differs between them.
+    private static void waysGoOnFromThere() {
+        for (Holder.Held a : ALL) {
+            for (Holder.Held b : ALL) {
+                Holder h = new Holder().hold(3, new Holder.Held(5, 1, 0)).hold(4, a).hold(5, b);
+                int from = h.place();
+                h.then(Check.ifNull(3, from + 7), move(6, 4, a), Check.setNull(3), Check.setNull(7), Check.copy(3, 3), Check.copy(3, 3),
+                        Check.go(from + 6), move(6, 5, b), Check.setNull(3), Check.setNull(7), Check.go(from + 4));
+                for (int place = from + 4; place <= from + 6; place++) {
+                    h.due("behind the meeting of " + a + " and " + b, place, 6, met(a, b));
+                }
+                h.due("ahead of the meeting of " + a + " and " + b, from + 10, 6, b);
+            }
+        }
+    }
+
+    // The same of fields: nothing else differs between the two ways.
+    private static void fieldsGoOnFromThere() {
+        for (int one = 0; one < 16; one++) {
+            for (int other = 0; other < 16; other++) {
+                MakerGuard g = new MakerGuard();
+                g.parameter(3, 0, 0, true, 0);
+                int meeting = 2 + Integer.bitCount(one);
+                Check.write(g, 3, Check.ifNull(0, meeting + 3));
+                putFields(g, one);
+                Check.write(g, 3, Check.setNull(0), Check.copy(1, 0), Check.copy(1, 0), Check.giveBack(0));
+                putFields(g, other);
+                Check.write(g, 3, Check.setNull(0), Check.go(meeting));
+                for (int place = meeting; place <= meeting + 2; place++) {
+                    Check.due("fields behind the meeting of " + one + " and " + other, g.fields(3, place), one & other);
+                }
+            }
+        }
     }
 
     // "Of fields that were PUT, those of all ways count."

@@ -84,9 +84,10 @@ public final class MakerGuard {
 
     public int add(int body, int order, int x, int y, int z)
             throws NoSuchElementException, IllegalArgumentException, IllegalStateException {
-        // All that is not there is told first: x has to be a local even if the order is none.
-        mustBeThere(isBelow(body, BODIES) && hasRightNumbers(order, x, y, z));
+        mustBeThere(isBelow(body, BODIES));
+        // Ahead of x, y and z: without an order they are mere numbers, and nothing has to be there.
         mustBeKnown(isBelow(order, RETURN + 1));
+        mustBeThere(hasRightNumbers(order, x, y, z));
         Body longer = program.bodies[body];
         mustBeReady(longer.size < PLACES);
         longer.append(order, x, y, z);

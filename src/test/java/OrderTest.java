@@ -87,15 +87,20 @@ public final class OrderTest {
         }
     }
 
+    /** What has to be there is "of the order": of a number that is none, only the body. */
     private static void addOne(int body, int order, int x, int y, int z) {
-        boolean there = isIn(body, 12)
-                && (order == 6 || isIn(x, 8))
+        boolean known = isIn(order, 9);
+        boolean there = isIn(body, 12) && (!known || numbersAreThere(order, x, y, z));
+        due("add " + body + " " + order + " " + x + " " + y + " " + z, first(there, known, body != FULL),
+                g -> g.add(body, order, x, y, z));
+    }
+
+    private static boolean numbersAreThere(int order, int x, int y, int z) {
+        return (order == 6 || isIn(x, 8))
                 && (order != 0 && order != 3 && order != 4 || isIn(y, 8))
                 && (order != 2 && order != 7 || isIn(y, 6))
                 && (order != 3 && order != 4 || isIn(z, 4))
                 && (order != 2 && order != 7 || isIn(z, 8));
-        due("add " + body + " " + order + " " + x + " " + y + " " + z, first(there, isIn(order, 9), body != FULL),
-                g -> g.add(body, order, x, y, z));
     }
 
     private static void bodiesAlone() {

@@ -24,7 +24,9 @@ public final class RefusalTest {
         field();
         parameter();
         returns();
-        addBodyAndOrder();
+        addBody();
+        addOrder();
+        addOrderToNewObject();
         addLocals();
         addClassFunctionField();
         addToFullBody();
@@ -98,15 +100,38 @@ public final class RefusalTest {
         }
     }
 
-    private static void addBodyAndOrder() {
+    private static void addBody() {
         for (int bad : NO_BODY) {
             refuse("add body " + bad, Check.NO_SUCH, x -> x.add(bad, 8, 0, 0, 0));
-            refuse("add body " + bad + " and no order", Check.NO_SUCH, x -> x.add(bad, 9, 0, 0, 0));
+            for (int order : NO_ORDER) {
+                refuse("add body " + bad + " and order " + order, Check.NO_SUCH, x -> x.add(bad, order, 0, 0, 0));
+                refuse("that, and no local", Check.NO_SUCH, x -> x.add(bad, order, 8, 0, 0));
+            }
         }
-        for (int bad : NO_ORDER) {
-            refuse("add order " + bad, Check.ARGUMENT, x -> x.add(0, bad, 7, 0, 0));
-            refuse("add order " + bad + ", y and z that are nothing", Check.ARGUMENT, x -> x.add(0, bad, 0, 99, -99));
-            refuse("add order " + bad + " and no local x", Check.NO_SUCH, x -> x.add(0, bad, 8, 0, 0));
+    }
+
+    /** Without an order x, y and z are mere numbers: none of them can be a local, class, function or field that is not there. */
+    private static void addOrder() {
+        for (int order : NO_ORDER) {
+            refuse("add order " + order, Check.ARGUMENT, x -> x.add(0, order, 7, 0, 0));
+            for (int bad : NO_LOCAL) {
+                refuse("add order " + order + ", x " + bad, Check.ARGUMENT, x -> x.add(0, order, bad, 0, 0));
+                refuse("add order " + order + ", y no local " + bad, Check.ARGUMENT, x -> x.add(0, order, 0, bad, 0));
+                refuse("add order " + order + ", z no local " + bad, Check.ARGUMENT, x -> x.add(0, order, 0, 0, bad));
+                refuse("add order " + order + ", all " + bad, Check.ARGUMENT, x -> x.add(6, order, bad, bad, bad));
+            }
+            refuse("add order " + order + ", y no class or function", Check.ARGUMENT, x -> x.add(0, order, 0, 6, 0));
+            refuse("add order " + order + ", z no field", Check.ARGUMENT, x -> x.add(0, order, 0, 0, 4));
+        }
+    }
+
+    private static void addOrderToNewObject() {
+        String untouched = Witness.of(MakerGuard::new);
+        for (int order : NO_ORDER) {
+            for (int body : new int[] {0, 5, 6, 11}) {
+                refuse("add order " + order + " and no local to new body " + body, Check.ARGUMENT, MakerGuard::new, untouched,
+                        x -> x.add(body, order, 8, 0, 0));
+            }
         }
     }
 
@@ -142,9 +167,11 @@ public final class RefusalTest {
             int next = order;
             refuse("add of order " + order + " to a full body", Check.STATE, x -> x.add(FULL, next, 0, 0, 0));
         }
-        refuse("that, and no order", Check.ARGUMENT, x -> x.add(FULL, 9, 0, 0, 0));
         refuse("that, and no local", Check.NO_SUCH, x -> x.add(FULL, 8, 8, 0, 0));
-        refuse("that, no order and no local", Check.NO_SUCH, x -> x.add(FULL, 9, 8, 0, 0));
+        for (int order : NO_ORDER) {
+            refuse("that, and order " + order, Check.ARGUMENT, x -> x.add(FULL, order, 0, 0, 0));
+            refuse("that, order " + order + " and no local", Check.ARGUMENT, x -> x.add(FULL, order, 8, 0, 0));
+        }
     }
 
     private static void clearAndGood() {
@@ -264,6 +291,7 @@ public final class RefusalTest {
         refuse("returns, " + when, Check.NO_SUCH, copies, untouched, x -> x.returns(3, 5, true, 3));
         refuse("add of no local, " + when, Check.NO_SUCH, copies, untouched, x -> x.add(0, 0, 0, 8, 0));
         refuse("add of no order, " + when, Check.ARGUMENT, copies, untouched, x -> x.add(0, 9, 0, 0, 0));
+        refuse("add of no order, x no local, " + when, Check.ARGUMENT, copies, untouched, x -> x.add(0, 9, 8, 0, 0));
         refuse("add to a full body, " + when, Check.STATE, copies, untouched, x -> x.add(FULL, 8, 0, 0, 0));
         refuse("clear, " + when, Check.NO_SUCH, copies, untouched, x -> x.clear(12));
         refuse("good, " + when, Check.NO_SUCH, copies, untouched, x -> x.good(12));

@@ -99,6 +99,34 @@ final class Oracle {
         return seen;
     }
 
+    /** What holds() has to answer of what is seen. */
+    static int tellHeld(Seen seen, int local, int what) {
+        if (seen == null) {
+            return -3;
+        }
+        Held held = seen.locals.get(local);
+        if (held == null) {
+            return -2;
+        }
+        return what == 0 ? held.c : what == 1 ? held.nullness : held.state;
+    }
+
+    /** What fields() has to answer of what is seen. */
+    static int tellPut(Seen seen) {
+        if (seen == null) {
+            return -1;
+        }
+        int bits = 0;
+        for (int k : seen.put) {
+            bits |= 1 << k;
+        }
+        return bits;
+    }
+
+    static int numberOf(Thing thing) {
+        return thing == null ? -1 : thing.number;
+    }
+
     private Seen beginning(int body) {
         List<Held> locals = new ArrayList<>();
         for (int k = 0; k < 8; k++) {

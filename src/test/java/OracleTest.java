@@ -64,35 +64,13 @@ public final class OracleTest {
             int local = scribe.below(3) == 0 ? scribe.below(8) : scribe.below(3);
             int what = scribe.below(3);
             Check.due("holds " + body + " " + place + " " + local + " " + what, guard.holds(body, place, local, what),
-                    held(seen[place], local, what));
+                    Oracle.tellHeld(seen[place], local, what));
             calls++;
             if (body < 6) {
-                Check.due("fields " + body + " " + place, guard.fields(body, place), put(seen[place]));
+                Check.due("fields " + body + " " + place, guard.fields(body, place), Oracle.tellPut(seen[place]));
                 calls++;
             }
         }
-    }
-
-    private static int held(Oracle.Seen seen, int local, int what) {
-        if (seen == null) {
-            return -3;
-        }
-        Oracle.Held held = seen.locals().get(local);
-        if (held == null) {
-            return -2;
-        }
-        return what == 0 ? held.c() : what == 1 ? held.nullness() : held.state();
-    }
-
-    private static int put(Oracle.Seen seen) {
-        int bits = 0;
-        if (seen == null) {
-            return -1;
-        }
-        for (int k : seen.put()) {
-            bits |= 1 << k;
-        }
-        return bits;
     }
 
     private void compareRun(int function) {
@@ -112,21 +90,17 @@ public final class OracleTest {
         boolean over = oracle.rooms.isEmpty();
         Oracle.Room upper = over ? null : oracle.rooms.get(oracle.rooms.size() - 1);
         int[] due = {oracle.status, oracle.steps, oracle.rooms.size(), over ? -1 : upper.body, over ? -1 : upper.place,
-            oracle.things.size(), number(oracle.answer)};
+            oracle.things.size(), Oracle.numberOf(oracle.answer)};
         for (int what = 0; what < 7; what++) {
             Check.due("state " + what, guard.state(what), due[what]);
         }
         for (int k = 0; k < 8 && !over; k++) {
-            Check.due("local " + k, guard.local(k), number(upper.locals[k]));
+            Check.due("local " + k, guard.local(k), Oracle.numberOf(upper.locals[k]));
         }
         for (int k = 0; k < 10 && !oracle.things.isEmpty(); k++) {
             Oracle.Thing thing = oracle.things.get(scribe.below(oracle.things.size()));
             int field = scribe.below(5);
-            Check.due("object", guard.object(thing.number, field), field == 4 ? thing.c : number(thing.fields[field]));
+            Check.due("object", guard.object(thing.number, field), field == 4 ? thing.c : Oracle.numberOf(thing.fields[field]));
         }
-    }
-
-    private static int number(Oracle.Thing thing) {
-        return thing == null ? -1 : thing.number;
     }
 }

@@ -3,8 +3,9 @@ import java.util.Arrays;
 import java.util.List;
 
 /**
- * Not some, but all bodies of a few instructions over a few locals, classes and fields: every answer of
- * the guard is the Oracle's, whatever the body's parameter is declared to be; and so is every run of one.
+ * Not some, but all bodies of a few instructions, the last one GO or RETURN, over a few locals, classes
+ * and fields: every answer of the guard is the Oracle's, whatever the body's parameter is declared to be;
+ * and so is every run of one.
  */
 public final class SmallTest {
     private static final int LENGTH = 3;
